@@ -376,7 +376,7 @@ public final class Windlane {
             size = size * 2f;
             exponent--;
         }
-        int fraction = (int) (size * FRACTION_SIZE) - FRACTION_SIZE;
+        int fraction = (int) (size * (float) FRACTION_SIZE) - FRACTION_SIZE;
         return sign | exponent << FRACTION_BITS | fraction;
     }
 

@@ -59,7 +59,8 @@ final class Check {
     /** All that the questions tell, and whether it rains. */
     static String stateOf(Windlane field) {
         StringBuilder state = new StringBuilder();
-        for (int kite = 0; kite < kitesOf(field); kite++) {
+        int kites = kitesOf(field);
+        for (int kite = 0; kite < kites; kite++) {
             for (int what = 0; what <= 5; what++) {
                 state.append(field.about(kite, what)).append(' ');
             }

@@ -68,19 +68,23 @@ public final class LanesTest {
     }
 
     private static void flyRefusesWhatIsOutOfRange() {
-        Windlane field = new Windlane();
-        int kite = Check.lentKite(field, Windlane.DELTA, 10, 5);
-        field.wind(8, 0);
         for (int bad : new int[] {-1, 1, 8, Integer.MIN_VALUE, Integer.MAX_VALUE}) {
-            Check.refuses(field, "fly of no kite", Check.INDEX, () -> field.fly(bad, 0, 50));
+            flyRefuses(Check.INDEX, bad, 0, 50);
         }
         for (int bad : new int[] {-1, 10, Integer.MIN_VALUE, Integer.MAX_VALUE}) {
-            Check.refuses(field, "fly in no lane", Check.INDEX, () -> field.fly(kite, bad, 50));
+            flyRefuses(Check.INDEX, 0, bad, 50);
         }
         for (int bad : new int[] {9, 101, 0, -10, Integer.MIN_VALUE, Integer.MAX_VALUE}) {
-            Check.refuses(field, "fly with a bad length", Check.RANGE, () -> field.fly(kite, 0, bad));
+            flyRefuses(Check.RANGE, 0, 0, bad);
         }
-        Check.due("fly after refusals", field.fly(kite, 0, 50), 0);
+    }
+
+    private static void flyRefuses(Class<?> want, int kite, int lane, int length) {
+        Windlane field = new Windlane();
+        int ready = Check.lentKite(field, Windlane.DELTA, 10, 5);
+        field.wind(8, 0);
+        Check.refuses(field, "fly out of range", want, () -> field.fly(kite, lane, length));
+        Check.due("fly after a refusal", field.fly(ready, 0, 50), 0);
     }
 
     private static void flyNamesTheFirstException() {

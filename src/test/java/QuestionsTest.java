@@ -55,9 +55,9 @@ public final class QuestionsTest {
     }
 
     private static void pullRefuses() {
-        Windlane field = new Windlane();
-        int kite = field.kite(0, 10, 5);
         for (int bad : new int[] {-1, 31, Integer.MIN_VALUE, Integer.MAX_VALUE}) {
+            Windlane field = new Windlane();
+            int kite = field.kite(0, 10, 5);
             Check.refuses(field, "pull out of range", Check.RANGE, () -> field.pull(kite, bad));
             Check.refuses(field, "pullAnew out of range", Check.RANGE, () -> field.pullAnew(kite, bad));
             Check.refuses(field, "pull of no kite", Check.INDEX, () -> field.pull(1, bad));
@@ -197,14 +197,14 @@ public final class QuestionsTest {
             Check.due("lane", field.lane(lane), lane < 2 ? Windlane.NONE : 9 - lane);
         }
         for (int bad : new int[] {-1, 10, Integer.MIN_VALUE, Integer.MAX_VALUE}) {
-            Check.refuses(field, "no lane", Check.INDEX, () -> field.lane(bad));
+            Check.throwsIt("no lane", Check.INDEX, () -> field.lane(bad));
         }
     }
 
     private static void kitesThatAreNotThere() {
-        Windlane field = new Windlane();
-        field.kite(0, 10, 5);
         for (int bad : new int[] {-1, 1, 7, 8, Integer.MIN_VALUE, Integer.MAX_VALUE}) {
+            Windlane field = new Windlane();
+            field.kite(0, 10, 5);
             Check.refuses(field, "pull", Check.INDEX, () -> field.pull(bad, 5));
             Check.refuses(field, "pullAnew", Check.INDEX, () -> field.pullAnew(bad, 5));
             Check.refuses(field, "tension", Check.INDEX, () -> field.tension(bad));

@@ -1,13 +1,14 @@
-/** Long runs of calls: what must hold after each call, whatever came before. */
+/**
+ * Many runs of calls of every length: what must hold after the last call, whatever came before. Only the last call is
+ * looked at, for the questions are calls too, and nothing is promised after an object's 512th.
+ */
 public final class RunsTest {
-    private static final int RUNS = 1500;
-    private static final int CALLS = 512;
+    private static final int RUNS = 25000;
+    private static final int MOST_CALLS_BEFORE = 200;
     private static final int[] ODD = {-1, -2, 8, 10, 31, 101, Integer.MIN_VALUE, Integer.MAX_VALUE};
 
     private long seed;
     private final Windlane field = new Windlane();
-    private String before = Check.stateOf(field);
-    private int calledBefore = 0;
 
     private RunsTest(long seed) {
         this.seed = seed;
@@ -16,9 +17,14 @@ public final class RunsTest {
     public static void main(String[] args) {
         for (int run = 0; run < RUNS; run++) {
             RunsTest test = new RunsTest(run);
-            for (int call = 0; call < CALLS; call++) {
-                test.step();
+            if (run % 4 != 0) {
+                test.fill();
             }
+            int callsBefore = test.below(MOST_CALLS_BEFORE);
+            for (int call = 0; call < callsBefore; call++) {
+                test.step(false);
+            }
+            test.step(true);
         }
         Check.finish();
     }
@@ -33,20 +39,29 @@ public final class RunsTest {
         return below(40) == 0 ? ODD[below(ODD.length)] : least + below(most - least + 1);
     }
 
-    private void step() {
-        int kind = below(16);
-        Class<?> thrown = Check.thrownBy(() -> call(kind));
-        Check.isTrue("call " + kind + " threw " + thrown,
-            thrown == null || thrown == Check.RANGE || thrown == Check.STATE || thrown == Check.INDEX);
-        String after = Check.stateOf(field);
-        Check.isTrue("call " + kind + " threw and changed something", thrown == null || before.equals(after));
-        before = after;
-        lanesAgree();
-        linesDoNotCross();
-        calledBefore = field.called();
+    /** Begins with all that the shed can hold, so that most calls of the run find something. */
+    private void fill() {
+        for (int i = 0; i < 8; i++) {
+            field.kite(below(3), 1 + below(20), 1 + below(20));
+            field.borrower(1 + below(3));
+        }
     }
 
-    private void call(int kind) {
+    private void step(boolean isLast) {
+        int kind = below(16);
+        String before = isLast ? Check.stateOf(field) : "";
+        Class<?> thrown = Check.thrownBy(() -> call(kind, isLast));
+        Check.isTrue("call " + kind + " threw " + thrown,
+            thrown == null || thrown == Check.RANGE || thrown == Check.STATE || thrown == Check.INDEX);
+        if (isLast) {
+            Check.isTrue("call " + kind + " threw and changed something",
+                thrown == null || before.equals(Check.stateOf(field)));
+            lanesAgree();
+            linesDoNotCross();
+        }
+    }
+
+    private void call(int kind, boolean isLast) {
         switch (kind) {
             case 0: case 1:
                 field.kite(some(0, 2), some(1, 20), some(1, 20));
@@ -67,7 +82,7 @@ public final class RunsTest {
                 field.land(some(0, 7));
                 break;
             case 11: case 12:
-                tellWind(below(8) == 0 ? some(0, 30) : some(4, 10), some(-5, 5));
+                tellWind(below(8) == 0 ? some(0, 30) : some(4, 10), some(-5, 5), isLast);
                 break;
             case 13:
                 field.rain(below(2) == 0);
@@ -80,12 +95,18 @@ public final class RunsTest {
         }
     }
 
-    private void tellWind(int speed, int side) {
+    private void tellWind(int speed, int side, boolean isLast) {
+        if (!isLast) {
+            field.wind(speed, side);
+            return;
+        }
+        int calledBefore = field.called();
         int flying = flyingKites();
         int calledDown = field.wind(speed, side);
         Check.due("kites flying after wind", flyingKites(), flying - calledDown);
         Check.due("called after wind", field.called(), calledBefore + calledDown);
-        for (int kite = 0; kite < Check.kitesOf(field); kite++) {
+        int kites = Check.kitesOf(field);
+        for (int kite = 0; kite < kites; kite++) {
             int pull = field.pull(kite, speed);
             Check.due("pullAnew", field.pullAnew(kite, speed), pull);
             if (field.about(kite, 4) != Windlane.NONE) {
@@ -104,7 +125,8 @@ public final class RunsTest {
 
     private void lanesAgree() {
         int seen = 0;
-        for (int kite = 0; kite < Check.kitesOf(field); kite++) {
+        int kites = Check.kitesOf(field);
+        for (int kite = 0; kite < kites; kite++) {
             int lane = field.about(kite, 4);
             if (lane != Windlane.NONE) {
                 seen++;

@@ -197,10 +197,10 @@ public final class ShedTest {
     }
 
     private static void lendRefusesWhatIsNotThere() {
-        Windlane field = new Windlane();
-        field.kite(Windlane.SLED, 1, 1);
-        field.borrower(1);
         for (int bad : new int[] {-1, 1, 8, Integer.MIN_VALUE, Integer.MAX_VALUE}) {
+            Windlane field = new Windlane();
+            field.kite(Windlane.SLED, 1, 1);
+            field.borrower(1);
             Check.refuses(field, "lend of no kite", Check.INDEX, () -> field.lend(bad, 0));
             Check.refuses(field, "lend to no borrower", Check.INDEX, () -> field.lend(0, bad));
             Check.refuses(field, "lend of no kite to no borrower", Check.INDEX, () -> field.lend(bad, bad));

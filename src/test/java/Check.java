@@ -1,3 +1,6 @@
+import java.util.function.Consumer;
+import java.util.function.Supplier;
+
 /** Counts and prints answers that are not as due; every test program ends by finish(). */
 final class Check {
     static final Class<?> RANGE = IllegalArgumentException.class;
@@ -6,8 +9,14 @@ final class Check {
 
     private static int wrong = 0;
     private static int checked = 0;
+    private static String sentence = "";
 
     private Check() {
+    }
+
+    /** The document's sentence that the checks from here on are for; a failure tells it. */
+    static void sentence(String words) {
+        sentence = "[" + words + "] ";
     }
 
     static void due(String what, long got, long want) {
@@ -27,7 +36,7 @@ final class Check {
     static void fail(String text) {
         wrong++;
         if (wrong <= 40) {
-            System.out.println(text);
+            System.out.println(sentence + text);
         }
     }
 
@@ -45,6 +54,25 @@ final class Check {
         String before = stateOf(field);
         throwsIt(what, want, call);
         isTrue(what + " threw, but changed something", before.equals(stateOf(field)));
+    }
+
+    /**
+     * The call must throw just this class, and whatever is called later must answer as it does on a twin that never
+     * saw the call. Two new objects are made, so that no object comes near its 512th call.
+     */
+    static void refused(String what, Class<?> want, Supplier<Windlane> made, Consumer<Windlane> call) {
+        Windlane field = made.get();
+        Windlane twin = made.get();
+        throwsIt(what, want, () -> call.accept(field));
+        String got = Probe.answersOf(field);
+        String due = Probe.answersOf(twin);
+        isTrue(what + " changed something:\n" + got + "\ndue is\n" + due, got.equals(due));
+    }
+
+    /** Numbers that are not from least to most: one off, those whose low bits would fit, and the ends of int. */
+    static int[] outside(int least, int most) {
+        return new int[] {least - 1, most + 1, least + 256, most + 65536, most - 65536,
+            Integer.MIN_VALUE, Integer.MAX_VALUE};
     }
 
     static Class<?> thrownBy(Runnable call) {
